@@ -33,6 +33,8 @@ public final class PromisesTest {
         carryOutStops();
         undo();
         undoRecordsEachChange();
+        undoOfEachChange();
+        undoKeepsStatesApart();
         save();
         restore();
         Due.close();
@@ -142,6 +144,14 @@ public final class PromisesTest {
         room.leave(4);
         Due.is("3 the eleventh, also when one has left", room.guest(0, 1), TOO_MANY);
         Due.is("3 all but one", room.count(1), 1023 - 16);
+        Due.is("3 all together: company", room.table(0, 2), 4);
+        Due.is("3 all together: guests", room.table(0, 0), 0b1001001001);
+        Due.is("3 all together: host", room.table(2, 1), 8);
+        Due.is("3 all together: lender", room.lender(0), 9);
+        Due.is("3 all together: faults", room.count(6), 0);
+        Due.is("3 all together: coughs", room.count(8), 18);
+        room.pause(0);
+        Due.is("3 the last one speaks", room.word(9), 1);
     }
 
     private static void leave() {
@@ -333,6 +343,9 @@ public final class PromisesTest {
         Due.is("9 alone nobody lends", room.cough(4), NONE);
         Due.is("9 alone: SHAME", room.of(4, 2), 3);
         Due.is("9 NONE is no error: recorded", room.count(14), changes);
+        room.pause(1);
+        room.cough(4);
+        Due.is("9 each time", room.of(4, 2), 6);
         room.leave(0);
         room.pause(0);
         Due.is("9 has left", room.cough(0), NOT_POSSIBLE);
@@ -427,6 +440,8 @@ public final class PromisesTest {
         Due.is("12 not there", room.table(0, 5), 0);
         room.leave(2);
         Due.is("12 the next host", room.table(1, 1), 3);
+        room.guest(2, 1);
+        Due.is("12 a host of the lowest rank", room.table(2, 1), 4);
     }
 
     private static void meaning() {
@@ -541,7 +556,9 @@ public final class PromisesTest {
         Due.is("16 1000 seconds", room.wouldMean(0, 1000), BAD_VALUE);
         Due.is("16 LOW seconds", room.wouldMean(0, LOW), BAD_VALUE);
         Due.is("16 HIGH seconds", room.wouldMean(0, HIGH), BAD_VALUE);
-        Due.is("16 nobody", room.wouldMean(0, 500), 0);
+        for (int second = 0; second <= 99; second++) {
+            Due.is("16 nobody for " + second, room.wouldMean(0, second), 0);
+        }
         int[] seconds = {0, 2, 3, 6, 7, 14, 15, 999};
         int[] due = {0, 0, 6, 6, 7, 7, 8, 8};
         for (int i = 0; i < due.length; i++) {
@@ -611,6 +628,8 @@ public final class PromisesTest {
         Due.is("18 not from who has left", room.lender(0), 2);
         Due.is("18 has left", room.lender(1), NOT_POSSIBLE);
         Due.is("18 changes nothing", room.of(2, 3), 2);
+        PauseLexicons high = roomWith(0, 9, 0, 9);
+        Due.is("18 of the highest rank", high.lender(0), 1);
     }
 
     private static void without() {
@@ -655,6 +674,7 @@ public final class PromisesTest {
         court.pass(15);
         court.close(0);
         Due.is("20 the highest", court.usual(), 11);
+        Due.is("15 the highest, as a set", court.count(7), 1 << 11);
     }
 
     private static void put() {
@@ -875,6 +895,88 @@ public final class PromisesTest {
         Due.is("25 nor are questions", room.count(14), 4);
     }
 
+    /** A room at the time 7 with a pair at table 0, which keeps a pause, and one guest at table 1. */
+    private static PauseLexicons evening() {
+        PauseLexicons room = roomWith(0, 5, 0, 6, 1, 7);
+        room.pause(0);
+        room.save(0);
+        room.pass(7);
+        return room;
+    }
+
+    private static void undone(String change, PauseLexicons room, int answer) {
+        Due.holds("25 " + change + " is carried out", answer >= 0 || answer == NONE);
+        Due.is("25 undo " + change, room.undo(), 5);
+        int[] counts = {7, 0b111, 1, 0, 0, 0, 0, 0, 6, 3, 4, 2, 1};
+        for (int what = 0; what < counts.length; what++) {
+            Due.is("25 count(" + what + ") after undo of " + change, room.count(what), counts[what]);
+        }
+        int[][] guests = {{0, 5, 0, 2, 0, 0, 0}, {0, 6, 0, 2, 1, 0, 0}, {1, 7, 0, 2, 1, 0, 0}};
+        for (int guest = 0; guest < 3; guest++) {
+            for (int what = 0; what < 7; what++) {
+                Due.is("25 of(" + guest + ", " + what + ") after undo of " + change, room.of(guest, what),
+                    guests[guest][what]);
+            }
+        }
+        int[] table = {0b11, 1, 2, 7, 4, 0};
+        for (int what = 0; what < 6; what++) {
+            Due.is("25 table(0, " + what + ") after undo of " + change, room.table(0, what), table[what]);
+        }
+        Due.is("25 no fourth guest after undo of " + change, room.of(3, 0), NO_SUCH);
+        Due.is("25 no end after undo of " + change, room.end(0, 0), NO_SUCH);
+        Due.is("25 no pause at table 1 after undo of " + change, room.table(1, 3), NONE);
+        Due.is("25 no meaning after undo of " + change, room.meaning(4, 0) + room.meaning(4, 1), 0);
+    }
+
+    private static void undoOfEachChange() {
+        PauseLexicons room = evening();
+        undone("set", room, room.set(0, 9));
+        room = evening();
+        undone("guest", room, room.guest(0, 9));
+        room = evening();
+        undone("leave", room, room.leave(1));
+        room = evening();
+        undone("move", room, room.move(1, 1));
+        room = evening();
+        undone("pause", room, room.pause(1));
+        room = evening();
+        undone("close", room, room.close(0));
+        room = evening();
+        undone("word", room, room.word(0));
+        room = evening();
+        undone("cough", room, room.cough(0));
+        room = evening();
+        undone("pass", room, room.pass(30));
+        room = evening();
+        undone("restore", room, room.restore(0));
+        room = evening();
+        Due.write(room, "g1.1;e0;p0;t20;c1;w2");
+        undone("carryOut", room, room.carryOut());
+    }
+
+    private static void undoKeepsStatesApart() {
+        PauseLexicons room = new PauseLexicons();
+        for (int i = 0; i < 8; i++) {
+            room.pass(1);
+        }
+        room.pass(100);
+        room.leave(0);
+        for (int i = 7; i >= 2; i--) {
+            room.undo();
+            Due.is("25 an error touches no state that is kept", room.count(0), i);
+        }
+        PauseLexicons ends = roomWith(0, 5);
+        for (int seconds = 3; seconds <= 5; seconds++) {
+            ends.pause(0);
+            ends.pass(seconds);
+            ends.close(0);
+        }
+        ends.undo();
+        Due.is("25 the end before is the latest again", ends.end(0, 2), 4);
+        Due.is("25 and the one before that", ends.end(1, 2), 3);
+        Due.is("25 not so many", ends.end(2, 2), NO_SUCH);
+    }
+
     private static void save() {
         PauseLexicons room = roomWith(0, 5, 1, 6);
         Due.is("26 no slot -1", room.save(-1), BAD_VALUE);
@@ -897,6 +999,12 @@ public final class PromisesTest {
         room.restore(1);
         room.restore(0);
         Due.is("26 overwritten", room.count(0), 4);
+        PauseLexicons ranks = roomWith(0, 5);
+        ranks.save(0);
+        ranks.undo();
+        ranks.guest(1, 8);
+        ranks.restore(0);
+        Due.is("27 the guest who was saved", ranks.of(0, 0) * 10 + ranks.of(0, 1), 5);
     }
 
     private static void restore() {
