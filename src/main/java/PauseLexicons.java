@@ -253,13 +253,14 @@ public final class PauseLexicons {
     private int obeyOrders() {
         int done = 0;
         int from = 0;
-        while (from < pad.length) {
-            int to = pad.endOfOrder(from);
-            if (isError(obeyOrder(from, to))) {
-                return done;
+        for (int to = 1; to <= pad.length; to++) {
+            if (pad.isEndOfOrder(to)) {
+                if (isError(obeyOrder(from, to))) {
+                    return done;
+                }
+                done++;
+                from = to + 1;
             }
-            done++;
-            from = to + 1;
         }
         return done;
     }
@@ -822,12 +823,8 @@ public final class PauseLexicons {
             return code >= '0' && code <= '9';
         }
 
-        int endOfOrder(int from) {
-            int to = from;
-            while (to < length && codes[to] != ';') {
-                to++;
-            }
-            return to;
+        boolean isEndOfOrder(int at) {
+            return at >= length || codes[at] == ';';
         }
 
         int firstDigit(int from, int to) {

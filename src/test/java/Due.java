@@ -3,8 +3,18 @@ final class Due {
     private static final int SHOWN = 40;
     private static int checked = 0;
     private static int wrong = 0;
+    private static String topic = "";
 
     private Due() {
+    }
+
+    /** What is told before each answer that is not as due, from now on. */
+    static void about(String newTopic) {
+        topic = newTopic;
+    }
+
+    static int checked() {
+        return checked;
     }
 
     static void is(String call, long got, long want) {
@@ -12,7 +22,7 @@ final class Due {
         if (got != want) {
             wrong++;
             if (wrong <= SHOWN) {
-                System.out.println(call + " answered " + got + ", due is " + want);
+                System.out.println(topic + call + " answered " + got + ", due is " + want);
             }
         }
     }

@@ -40,20 +40,6 @@ public final class PromisesTest {
         Due.close();
     }
 
-    private static PauseLexicons roomWith(int... tablesAndRanks) {
-        PauseLexicons room = new PauseLexicons();
-        for (int i = 0; i < tablesAndRanks.length; i += 2) {
-            room.guest(tablesAndRanks[i], tablesAndRanks[i + 1]);
-        }
-        return room;
-    }
-
-    private static void passLong(PauseLexicons room, int seconds) {
-        for (int left = seconds; left > 0; left -= 99) {
-            room.pass(Math.min(99, left));
-        }
-    }
-
     private static void newObject() {
         PauseLexicons room = new PauseLexicons();
         for (int table = 0; table < 3; table++) {
@@ -76,7 +62,7 @@ public final class PromisesTest {
         Due.is("1 no end", room.end(0, 0), NO_SUCH);
         Due.is("1 nothing to undo", room.undo(), NOT_POSSIBLE);
         Due.is("1 nothing saved", room.restore(0), NOT_POSSIBLE);
-        PauseLexicons other = roomWith(0, 5);
+        PauseLexicons other = Rooms.with(0, 5);
         Due.is("1 objects are apart", new PauseLexicons().count(1), 0);
         Due.is("1 objects are apart", other.count(1), 1);
     }
@@ -105,7 +91,7 @@ public final class PromisesTest {
     }
 
     private static void settingsAreUsed() {
-        PauseLexicons room = roomWith(0, 5);
+        PauseLexicons room = Rooms.with(0, 5);
         room.pause(0);
         room.pass(5);
         Due.is("2 thought", room.table(0, 4), 1);
@@ -155,7 +141,7 @@ public final class PromisesTest {
     }
 
     private static void leave() {
-        PauseLexicons room = roomWith(0, 5, 0, 7, 1, 3);
+        PauseLexicons room = Rooms.with(0, 5, 0, 7, 1, 3);
         Due.is("4 nobody -1", room.leave(-1), NO_SUCH);
         Due.is("4 nobody 3", room.leave(3), NO_SUCH);
         Due.is("4 nobody LOW", room.leave(LOW), NO_SUCH);
@@ -181,7 +167,7 @@ public final class PromisesTest {
     }
 
     private static void move() {
-        PauseLexicons room = roomWith(0, 5, 0, 7, 1, 3);
+        PauseLexicons room = Rooms.with(0, 5, 0, 7, 1, 3);
         Due.is("5 nobody -1", room.move(-1, 0), NO_SUCH);
         Due.is("5 nobody 3", room.move(3, 0), NO_SUCH);
         Due.is("5 nobody HIGH", room.move(HIGH, 0), NO_SUCH);
@@ -209,7 +195,7 @@ public final class PromisesTest {
     }
 
     private static void pause() {
-        PauseLexicons room = roomWith(0, 5, 1, 5, 1, 6);
+        PauseLexicons room = Rooms.with(0, 5, 1, 5, 1, 6);
         Due.is("6 no table -1", room.pause(-1), NO_SUCH);
         Due.is("6 no table 3", room.pause(3), NO_SUCH);
         Due.is("6 no table LOW", room.pause(LOW), NO_SUCH);
@@ -220,11 +206,11 @@ public final class PromisesTest {
         Due.is("6 from 0 seconds", room.table(1, 3), 0);
         Due.is("6 with no meaning", room.table(1, 4), 0);
         Due.is("6 recorded", room.count(14), 5);
-        PauseLexicons three = roomWith(2, 4, 2, 4, 2, 4);
+        PauseLexicons three = Rooms.with(2, 4, 2, 4, 2, 4);
         Due.is("6 peers", three.pause(2), 3);
-        PauseLexicons court = roomWith(2, 4, 2, 4, 2, 5);
+        PauseLexicons court = Rooms.with(2, 4, 2, 4, 2, 5);
         Due.is("6 a court", court.pause(2), 4);
-        PauseLexicons four = roomWith(2, 4, 2, 4, 2, 4, 2, 4);
+        PauseLexicons four = Rooms.with(2, 4, 2, 4, 2, 4, 2, 4);
         Due.is("6 four peers", four.pause(2), 3);
     }
 
@@ -247,7 +233,7 @@ public final class PromisesTest {
     }
 
     private static void close() {
-        PauseLexicons room = roomWith(0, 5, 0, 6);
+        PauseLexicons room = Rooms.with(0, 5, 0, 6);
         Due.is("7 no table -1", room.close(-1), NO_SUCH);
         Due.is("7 no table 3", room.close(3), NO_SUCH);
         Due.is("7 no table HIGH", room.close(HIGH), NO_SUCH);
@@ -276,7 +262,7 @@ public final class PromisesTest {
     }
 
     private static void word() {
-        PauseLexicons room = roomWith(0, 5, 0, 7, 0, 7, 1, 1);
+        PauseLexicons room = Rooms.with(0, 5, 0, 7, 0, 7, 1, 1);
         Due.is("8 nobody -1", room.word(-1), NO_SUCH);
         Due.is("8 nobody 4", room.word(4), NO_SUCH);
         Due.is("8 nobody HIGH", room.word(HIGH), NO_SUCH);
@@ -309,7 +295,7 @@ public final class PromisesTest {
     }
 
     private static void cough() {
-        PauseLexicons room = roomWith(0, 5, 0, 7, 0, 3, 0, 3, 1, 1);
+        PauseLexicons room = Rooms.with(0, 5, 0, 7, 0, 3, 0, 3, 1, 1);
         Due.is("9 nobody -1", room.cough(-1), NO_SUCH);
         Due.is("9 nobody 5", room.cough(5), NO_SUCH);
         Due.is("9 nobody LOW", room.cough(LOW), NO_SUCH);
@@ -352,7 +338,7 @@ public final class PromisesTest {
     }
 
     private static void pass() {
-        PauseLexicons room = roomWith(0, 5, 1, 5, 2, 5);
+        PauseLexicons room = Rooms.with(0, 5, 1, 5, 2, 5);
         Due.is("10 0 seconds", room.pass(0), BAD_VALUE);
         Due.is("10 -1 seconds", room.pass(-1), BAD_VALUE);
         Due.is("10 100 seconds", room.pass(100), BAD_VALUE);
@@ -370,7 +356,7 @@ public final class PromisesTest {
         Due.is("10 each its own", room.table(2, 3), 100);
         Due.is("10 the time", room.count(0), 104);
         room.close(1);
-        passLong(room, 9999 - 104 - 99);
+        Rooms.pass(room, 9999 - 104 - 99);
         Due.is("10 too far", room.pass(99) + room.pass(1), 2 + NOT_POSSIBLE);
         Due.is("10 the last time", room.count(0), 9999);
         Due.is("10 the pause stays", room.table(0, 3), 9999);
@@ -384,7 +370,7 @@ public final class PromisesTest {
     }
 
     private static void of() {
-        PauseLexicons room = roomWith(2, 9, 2, 4, 2, 4);
+        PauseLexicons room = Rooms.with(2, 9, 2, 4, 2, 4);
         Due.is("11 nobody -1", room.of(-1, 0), NO_SUCH);
         Due.is("11 nobody 3", room.of(3, 0), NO_SUCH);
         Due.is("11 nobody LOW", room.of(LOW, 0), NO_SUCH);
@@ -415,7 +401,7 @@ public final class PromisesTest {
     }
 
     private static void table() {
-        PauseLexicons room = roomWith(1, 3, 0, 5, 1, 8, 1, 8);
+        PauseLexicons room = Rooms.with(1, 3, 0, 5, 1, 8, 1, 8);
         Due.is("12 no table -1", room.table(-1, 0), NO_SUCH);
         Due.is("12 no table 3", room.table(3, 99), NO_SUCH);
         Due.is("12 no table HIGH", room.table(HIGH, 0), NO_SUCH);
@@ -445,7 +431,7 @@ public final class PromisesTest {
     }
 
     private static void meaning() {
-        PauseLexicons room = roomWith(0, 5, 1, 5, 1, 5);
+        PauseLexicons room = Rooms.with(0, 5, 1, 5, 1, 5);
         Due.is("13 no meaning 0", room.meaning(0, 0), NO_SUCH);
         Due.is("13 no meaning 12", room.meaning(12, 9), NO_SUCH);
         Due.is("13 no meaning LOW", room.meaning(LOW, 0), NO_SUCH);
@@ -477,7 +463,7 @@ public final class PromisesTest {
     }
 
     private static void end() {
-        PauseLexicons room = roomWith(0, 5, 2, 6, 2, 7);
+        PauseLexicons room = Rooms.with(0, 5, 2, 6, 2, 7);
         Due.is("14 none yet", room.end(0, 0), NO_SUCH);
         Due.is("14 the rank is looked at first", room.end(0, 9), NO_SUCH);
         room.pause(2);
@@ -516,7 +502,7 @@ public final class PromisesTest {
     }
 
     private static void count() {
-        PauseLexicons room = roomWith(0, 5, 0, 6, 1, 7, 2, 8);
+        PauseLexicons room = Rooms.with(0, 5, 0, 6, 1, 7, 2, 8);
         Due.is("15 what -1", room.count(-1), BAD_VALUE);
         Due.is("15 what 15", room.count(15), BAD_VALUE);
         Due.is("15 what LOW", room.count(LOW), BAD_VALUE);
@@ -548,7 +534,7 @@ public final class PromisesTest {
     }
 
     private static void wouldMean() {
-        PauseLexicons room = roomWith(1, 5, 1, 5, 1, 5);
+        PauseLexicons room = Rooms.with(1, 5, 1, 5, 1, 5);
         Due.is("16 no table -1", room.wouldMean(-1, 5), NO_SUCH);
         Due.is("16 no table 3", room.wouldMean(3, -1), NO_SUCH);
         Due.is("16 no table HIGH", room.wouldMean(HIGH, 5), NO_SUCH);
@@ -571,7 +557,7 @@ public final class PromisesTest {
     }
 
     private static void turnsIn() {
-        PauseLexicons room = roomWith(0, 5, 1, 5, 1, 5);
+        PauseLexicons room = Rooms.with(0, 5, 1, 5, 1, 5);
         Due.is("17 no table -1", room.turnsIn(-1), NO_SUCH);
         Due.is("17 no table 3", room.turnsIn(3), NO_SUCH);
         Due.is("17 no table LOW", room.turnsIn(LOW), NO_SUCH);
@@ -589,7 +575,7 @@ public final class PromisesTest {
         room.set(PauseLexicons.SHORT, 20);
         room.set(PauseLexicons.STEP, 20);
         Due.is("17 by the settings", room.turnsIn(0), 3);
-        PauseLexicons three = roomWith(0, 5, 0, 5, 0, 5, 1, 5, 1, 6, 1, 5);
+        PauseLexicons three = Rooms.with(0, 5, 0, 5, 0, 5, 1, 5, 1, 6, 1, 5);
         three.pause(0);
         three.pause(1);
         three.pass(3);
@@ -603,14 +589,14 @@ public final class PromisesTest {
         three.pass(4);
         Due.is("17 boredom", three.turnsIn(0), NONE);
         Due.is("17 the end of the evening", three.turnsIn(1), NONE);
-        PauseLexicons late = roomWith(0, 5);
-        passLong(late, 9999);
+        PauseLexicons late = Rooms.with(0, 5);
+        Rooms.pass(late, 9999);
         late.pause(0);
         Due.is("17 the end of time is not asked for", late.turnsIn(0), 3);
     }
 
     private static void lender() {
-        PauseLexicons room = roomWith(0, 5, 0, 3, 0, 3, 1, 1);
+        PauseLexicons room = Rooms.with(0, 5, 0, 3, 0, 3, 1, 1);
         Due.is("18 nobody -1", room.lender(-1), NO_SUCH);
         Due.is("18 nobody 4", room.lender(4), NO_SUCH);
         Due.is("18 nobody HIGH", room.lender(HIGH), NO_SUCH);
@@ -628,12 +614,12 @@ public final class PromisesTest {
         Due.is("18 not from who has left", room.lender(0), 2);
         Due.is("18 has left", room.lender(1), NOT_POSSIBLE);
         Due.is("18 changes nothing", room.of(2, 3), 2);
-        PauseLexicons high = roomWith(0, 9, 0, 9);
+        PauseLexicons high = Rooms.with(0, 9, 0, 9);
         Due.is("18 of the highest rank", high.lender(0), 1);
     }
 
     private static void without() {
-        PauseLexicons room = roomWith(0, 5, 0, 5, 0, 5, 0, 9, 1, 4);
+        PauseLexicons room = Rooms.with(0, 5, 0, 5, 0, 5, 0, 9, 1, 4);
         Due.is("19 nobody -1", room.without(-1), NO_SUCH);
         Due.is("19 nobody 5", room.without(5), NO_SUCH);
         Due.is("19 nobody LOW", room.without(LOW), NO_SUCH);
@@ -655,7 +641,7 @@ public final class PromisesTest {
     }
 
     private static void usual() {
-        PauseLexicons room = roomWith(0, 5, 1, 5, 1, 5);
+        PauseLexicons room = Rooms.with(0, 5, 1, 5, 1, 5);
         Due.is("20 none", room.usual(), NONE);
         room.pause(0);
         room.close(0);
@@ -669,7 +655,7 @@ public final class PromisesTest {
             room.close(tables[i]);
             Due.is("20 after " + i, room.usual(), due[i]);
         }
-        PauseLexicons court = roomWith(0, 1, 0, 2, 0, 3);
+        PauseLexicons court = Rooms.with(0, 1, 0, 2, 0, 3);
         court.pause(0);
         court.pass(15);
         court.close(0);
@@ -794,7 +780,7 @@ public final class PromisesTest {
     }
 
     private static void carryOutStops() {
-        PauseLexicons room = roomWith(0, 5);
+        PauseLexicons room = Rooms.with(0, 5);
         Due.write(room, "p0;c0;t5;p3;t7");
         Due.is("24 nobody lends: no error", room.carryOut(), 3);
         Due.is("24 up to the error", room.count(0), 5);
@@ -832,7 +818,7 @@ public final class PromisesTest {
         Due.is("25 after it a new one", room.undo(), 0);
         Due.is("25 after it a new one", room.count(0), 6);
 
-        PauseLexicons all = roomWith(0, 5, 0, 6);
+        PauseLexicons all = Rooms.with(0, 5, 0, 6);
         all.pause(0);
         all.pass(9);
         Due.write(all, "t1");
@@ -897,7 +883,7 @@ public final class PromisesTest {
 
     /** A room at the time 7 with a pair at table 0, which keeps a pause, and one guest at table 1. */
     private static PauseLexicons evening() {
-        PauseLexicons room = roomWith(0, 5, 0, 6, 1, 7);
+        PauseLexicons room = Rooms.with(0, 5, 0, 6, 1, 7);
         room.pause(0);
         room.save(0);
         room.pass(7);
@@ -965,7 +951,7 @@ public final class PromisesTest {
             room.undo();
             Due.is("25 an error touches no state that is kept", room.count(0), i);
         }
-        PauseLexicons ends = roomWith(0, 5);
+        PauseLexicons ends = Rooms.with(0, 5);
         for (int seconds = 3; seconds <= 5; seconds++) {
             ends.pause(0);
             ends.pass(seconds);
@@ -978,7 +964,7 @@ public final class PromisesTest {
     }
 
     private static void save() {
-        PauseLexicons room = roomWith(0, 5, 1, 6);
+        PauseLexicons room = Rooms.with(0, 5, 1, 6);
         Due.is("26 no slot -1", room.save(-1), BAD_VALUE);
         Due.is("26 no slot 2", room.save(2), BAD_VALUE);
         Due.is("26 no slot LOW", room.save(LOW), BAD_VALUE);
@@ -999,7 +985,7 @@ public final class PromisesTest {
         room.restore(1);
         room.restore(0);
         Due.is("26 overwritten", room.count(0), 4);
-        PauseLexicons ranks = roomWith(0, 5);
+        PauseLexicons ranks = Rooms.with(0, 5);
         ranks.save(0);
         ranks.undo();
         ranks.guest(1, 8);
@@ -1008,7 +994,7 @@ public final class PromisesTest {
     }
 
     private static void restore() {
-        PauseLexicons room = roomWith(0, 5, 0, 6);
+        PauseLexicons room = Rooms.with(0, 5, 0, 6);
         Due.is("27 no slot -1", room.restore(-1), BAD_VALUE);
         Due.is("27 no slot 2", room.restore(2), BAD_VALUE);
         Due.is("27 no slot HIGH", room.restore(HIGH), BAD_VALUE);
