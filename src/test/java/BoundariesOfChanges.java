@@ -273,6 +273,15 @@ final class BoundariesOfChanges implements Codes {
         Due.is("after undo there again", room.leave(0), 0);
     }
 
+    @Sentence(of = "Promise 4",
+        says = "NO_SUCH if there is no such guest; NOT_POSSIBLE if the guest has left", order = true)
+    static void leaveErrorsInTheirOrder() {
+        PauseLexicons room = Rooms.with(0, 5);
+        room.leave(0);
+        Due.is("the one who has left", room.leave(0), NOT_POSSIBLE);
+        Due.is("one who never came", room.leave(1), NO_SUCH);
+    }
+
     // ---- Promise 5: move
 
     @Sentence(of = "Promise 5", says = "A guest goes to another table")
@@ -384,6 +393,13 @@ final class BoundariesOfChanges implements Codes {
         Due.is("the one before has ended", room.pause(2), 1);
     }
 
+    @Sentence(of = "Promise 6", says = "NO_SUCH if there is no such table; NOT_POSSIBLE if there is a pause, or nobody",
+        order = true)
+    static void pauseErrorsInTheirOrder() {
+        Twins.refused("nobody at the last table", NOT_POSSIBLE, PauseLexicons::new, r -> r.pause(2));
+        Twins.refused("nobody at a table that is none", NO_SUCH, PauseLexicons::new, r -> r.pause(3));
+    }
+
     private static PauseLexicons begun(int table) {
         PauseLexicons room = Rooms.with(table, 5);
         room.pause(table);
@@ -434,6 +450,13 @@ final class BoundariesOfChanges implements Codes {
         Due.is("it is over", room.close(0), NOT_POSSIBLE);
     }
 
+    @Sentence(of = "Promise 7",
+        says = "NO_SUCH if there is no such table; NOT_POSSIBLE if there is no pause", order = true)
+    static void closeErrorsInTheirOrder() {
+        Twins.refused("no pause at the last table", NOT_POSSIBLE, PauseLexicons::new, r -> r.close(2));
+        Twins.refused("no pause at a table that is none", NO_SUCH, PauseLexicons::new, r -> r.close(3));
+    }
+
     // ---- Promise 8: word
 
     @Sentence(of = "Promise 8", says = "This is a change.")
@@ -470,6 +493,14 @@ final class BoundariesOfChanges implements Codes {
         PauseLexicons room = begun(0);
         Due.is("one of 0 seconds", room.word(0), 1);
         Due.is("it is broken", room.word(0), NOT_POSSIBLE);
+    }
+
+    @Sentence(of = "Promise 8",
+        says = "NO_SUCH if there is no such guest; NOT_POSSIBLE if the guest has left, or there "
+        + "is no pause", order = true)
+    static void wordErrorsInTheirOrder() {
+        Twins.refused("a guest, no pause", NOT_POSSIBLE, Rooms::company1, r -> r.word(0));
+        Twins.refused("no guest, no pause", NO_SUCH, Rooms::company1, r -> r.word(1));
     }
 
     // ---- Promise 9: cough
@@ -517,6 +548,14 @@ final class BoundariesOfChanges implements Codes {
         PauseLexicons room = begun(0);
         Due.is("one of 0 seconds", room.cough(0), NONE);
         Due.is("it is broken", room.cough(0), NOT_POSSIBLE);
+    }
+
+    @Sentence(of = "Promise 9",
+        says = "NO_SUCH if there is no such guest; NOT_POSSIBLE if the guest has left, or there "
+        + "is no pause", order = true)
+    static void coughErrorsInTheirOrder() {
+        Twins.refused("a guest, no pause", NOT_POSSIBLE, Rooms::company1, r -> r.cough(0));
+        Twins.refused("no guest, no pause", NO_SUCH, Rooms::company1, r -> r.cough(1));
     }
 
     // ---- Promise 10: pass

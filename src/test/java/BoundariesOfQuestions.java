@@ -576,6 +576,18 @@ final class BoundariesOfQuestions implements Codes {
         Due.is("of the longest one there can be", Rooms.late().turnsIn(0), NONE);
     }
 
+    @Sentence(of = "Promise 17",
+        says = "NO_SUCH if there is no such table; NOT_POSSIBLE if there is no pause; NONE if it "
+        + "never does", order = true)
+    static void turnsInErrorsInTheirOrder() {
+        Twins.refused("no pause at the last table", NOT_POSSIBLE, PauseLexicons::new, r -> r.turnsIn(2));
+        Twins.refused("no pause at a table that is none", NO_SUCH, PauseLexicons::new, r -> r.turnsIn(3));
+        PauseLexicons room = Rooms.late();
+        Due.is("a pause that never turns", room.turnsIn(0), NONE);
+        room.close(0);
+        Due.is("no pause, which never turns", room.turnsIn(0), NOT_POSSIBLE);
+    }
+
     // ---- Promise 18: lender
 
     @Sentence(of = "Promise 18", says = "NO_SUCH if there is no such guest")
@@ -607,6 +619,18 @@ final class BoundariesOfQuestions implements Codes {
         room.cough(0);
         Due.is("the other one has none left", room.lender(0), NONE);
         Due.is("but this one has", room.lender(1), 0);
+    }
+
+    @Sentence(of = "Promise 18",
+        says = "NO_SUCH if there is no such guest; NOT_POSSIBLE if the guest has left; NONE if "
+        + "nobody would lend", order = true)
+    static void lenderErrorsInTheirOrder() {
+        PauseLexicons room = Rooms.with(0, 5);
+        Due.is("alone, nobody would lend", room.lender(0), NONE);
+        Due.is("no guest, nobody would lend", room.lender(1), NO_SUCH);
+        room.leave(0);
+        Due.is("has left, nobody would lend", room.lender(0), NOT_POSSIBLE);
+        Due.is("no guest, all have left", room.lender(1), NO_SUCH);
     }
 
     // ---- Promise 19: without
@@ -655,6 +679,14 @@ final class BoundariesOfQuestions implements Codes {
         Due.is("no pause yet", room.without(0), NOT_POSSIBLE);
         room.pause(0);
         Due.is("one of 0 seconds", room.without(0), 0);
+    }
+
+    @Sentence(of = "Promise 19",
+        says = "NO_SUCH if there is no such guest; NOT_POSSIBLE if the guest has left, or there is "
+        + "no pause", order = true)
+    static void withoutErrorsInTheirOrder() {
+        Twins.refused("a guest, no pause", NOT_POSSIBLE, Rooms::company1, r -> r.without(0));
+        Twins.refused("no guest, no pause", NO_SUCH, Rooms::company1, r -> r.without(1));
     }
 
     // ---- Promise 20: usual

@@ -261,6 +261,23 @@ final class BoundariesOfStates implements Codes {
         Due.is("what was saved last", room.count(0), 13);
     }
 
+    @Sentence(of = "Promise 27", says = "Restores what was saved last in a slot")
+    static void restoreOfAnotherGuestOfThatNumber() {
+        PauseLexicons room = Rooms.with(0, 5);
+        room.save(0);
+        room.undo();
+        room.set(LEND, 9);
+        room.guest(1, 8);
+        room.restore(0);
+        Due.is("table, rank and coughs of the one saved", tableRankCoughs(room), 52);
+        room.undo();
+        Due.is("of the other one, after undo", tableRankCoughs(room), 189);
+    }
+
+    private static int tableRankCoughs(PauseLexicons room) {
+        return room.of(0, 0) * 100 + room.of(0, 1) * 10 + room.of(0, 3);
+    }
+
     @Sentence(of = "Promise 27", says = "This is a change.")
     static void restoreIsAChange() {
         BoundariesOfChanges.isAChange("restore(0)", 1, BoundariesOfStates::saved, r -> r.restore(0));

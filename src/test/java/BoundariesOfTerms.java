@@ -509,6 +509,10 @@ final class BoundariesOfTerms implements Codes {
         room.pause(1);
         Due.is("alone one is the host", room.word(2), 9);
         Due.is("nobody else answers", room.count(6), 9 + 10 + 9);
+        PauseLexicons full = Rooms.full();
+        full.pause(0);
+        full.word(9);
+        Due.is("also guest 0", full.of(0, 2), 1);
     }
 
     @Sentence(of = "Pauses", says = "it is broken by a cough: it has meant nothing")

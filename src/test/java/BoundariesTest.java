@@ -26,10 +26,13 @@ public final class BoundariesTest {
         + "|overwrites|keeps it|is over|goes? on|for good|somebody else|rounded|leading|everything|\\bso far|or more"
         + "|there have been|by itself|never|another|some left|bit masks|numbered");
 
+    private static final Pattern ERROR = Pattern.compile("(NO_SUCH|BAD_VALUE|BAD_TEXT|TOO_MANY|NOT_POSSIBLE) if ");
+
     public static void main(String[] args) throws IOException, ReflectiveOperationException {
         Map<String, String> sections = Document.sections();
         Map<String, BitSet> quoted = new HashMap<>();
-        for (Method test : tests()) {
+        List<Method> tests = tests();
+        for (Method test : tests) {
             Sentence sentence = test.getAnnotation(Sentence.class);
             Due.about("");
             quote(sentence, sections.getOrDefault(sentence.of(), ""), quoted);
@@ -42,6 +45,7 @@ public final class BoundariesTest {
         for (Map.Entry<String, String> section : sections.entrySet()) {
             if (section.getKey().matches(SECTIONS)) {
                 everyBoundaryIsQuoted(section.getKey(), section.getValue(), quoted);
+                orderIsTested(section.getKey(), section.getValue(), tests);
             }
         }
         Due.is("sections of the document", sections.keySet().stream().filter(s -> s.matches(SECTIONS)).count(), 6 + 27);
@@ -73,6 +77,18 @@ public final class BoundariesTest {
             quoted.computeIfAbsent(sentence.of(), name -> new BitSet()).set(from, to);
             from = section.indexOf(sentence.says(), to);
         }
+    }
+
+    /** What a promise tells of two errors or more has a test of their order, which quotes them all. */
+    private static void orderIsTested(String name, String section, List<Method> tests) {
+        int errors = errorsIn(section);
+        boolean has = tests.stream().map(m -> m.getAnnotation(Sentence.class))
+            .anyMatch(s -> s.order() && s.of().equals(name) && errorsIn(s.says()) == errors);
+        Due.holds("a test is about the order of the errors of " + name, errors < 2 || has);
+    }
+
+    private static int errorsIn(String text) {
+        return (int) ERROR.matcher(text).results().count();
     }
 
     private static void everyBoundaryIsQuoted(String name, String section, Map<String, BitSet> quoted) {
