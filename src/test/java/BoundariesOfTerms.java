@@ -1,6 +1,68 @@
-/** Boundaries that the section "Terms" names, without those of texts. */
+import java.util.List;
+import java.util.function.ToIntFunction;
+
+/** How often an object is used, and the boundaries that the section "Terms" names, without those of texts. */
 final class BoundariesOfTerms implements Codes {
     private BoundariesOfTerms() {
+    }
+
+    // ---- What it is
+
+    /** A room that is asked so many times more, always the same in turn. */
+    private static PauseLexicons asked(PauseLexicons room, int times, List<ToIntFunction<PauseLexicons>> inTurn) {
+        for (int i = 0; i < times; i++) {
+            inTurn.get(i % inTurn.size()).applyAsInt(room);
+        }
+        return room;
+    }
+
+    @Sentence(of = "What it is", says = "An object is used for at most 512 calls after it has been made")
+    static void the512thCallIsAnswered() {
+        PauseLexicons room = asked(new PauseLexicons(), 511, List.of(r -> r.pass(1)));
+        Due.is("the time after 511 seconds", room.count(0), 511);
+        room = asked(new PauseLexicons(), 511, List.of(r -> r.set(SHORT, 7), r -> r.set(SHORT, 8)));
+        Due.is("set", room.set(SHORT, 1), 7);
+        room = asked(new PauseLexicons(), 511, List.of(r -> r.guest(1, 5)));
+        Due.is("guest", room.guest(1, 5), TOO_MANY);
+        room = asked(new PauseLexicons(), 511, List.of(r -> r.guest(1, 5), PauseLexicons::undo));
+        Due.is("guest, and undone each time", room.guest(1, 5), 1);
+        room = asked(Rooms.with(0, 5), 510, List.of(r -> r.move(0, 1), r -> r.move(0, 0)));
+        Due.is("move", room.move(0, 2), 0);
+        room = asked(Rooms.with(0, 5), 510, List.of(r -> r.pause(0), r -> r.close(0)));
+        Due.is("closed", room.count(3), 255);
+        room = asked(Rooms.with(0, 5), 510, List.of(r -> r.pause(0), r -> r.word(0)));
+        Due.is("faults", room.of(0, 2), 255);
+        room = asked(Rooms.with(0, 5), 510, List.of(r -> r.pause(0), r -> r.cough(0)));
+        Due.is("broken", room.of(0, 5), 255);
+        room = asked(new PauseLexicons(), 511, List.of(r -> r.put('x'), PauseLexicons::wipe));
+        Due.is("put", room.put('x'), 2);
+        room = asked(new PauseLexicons(), 511, List.of(r -> r.save(1), r -> r.pass(1), r -> r.restore(1)));
+        Due.is("saved", room.restore(1), 0);
+        room = asked(new PauseLexicons(), 511, List.of(PauseLexicons::undo));
+        Due.is("undo", room.undo(), NOT_POSSIBLE);
+    }
+
+    @Sentence(of = "What it is", says = "An object is used for at most 512 calls after it has been made")
+    static void textsOf512Calls() {
+        PauseLexicons room = Rooms.with(0, 5);
+        int calls = 1;
+        for (int texts = 1; texts <= 46; texts++) {
+            Due.write(room, "p0;e0" + ";p0;e0".repeat(12));
+            Due.is("orders", room.carryOut(), 26);
+            calls += 11;
+        }
+        Due.is("calls so far", calls, 507);
+        Due.is("closed", room.count(3), 46 * 13);
+        Due.is("closed there", room.table(0, 5), 46 * 13);
+        Due.is("ends that are told", room.end(9, 0) * 10 + room.end(10, 0), NO_SUCH);
+        Due.is("undo", room.undo(), 5);
+    }
+
+    @Sentence(of = "What it is", says = "An object is used for at most 512 calls after it has been made")
+    static void questionsOf512Calls() {
+        PauseLexicons room = asked(Rooms.evening(), 300, List.of(r -> r.wouldMean(0, 9), r -> r.turnsIn(0),
+            r -> r.lender(0), r -> r.without(0), PauseLexicons::usual, PauseLexicons::fault));
+        Twins.same("300 questions change nothing", room, Rooms.evening());
     }
 
     // ---- Conventions

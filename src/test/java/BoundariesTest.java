@@ -18,7 +18,7 @@ import java.util.stream.Stream;
 public final class BoundariesTest {
     private static final List<Class<?>> CLASSES = List.of(BoundariesOfTerms.class, BoundariesOfChanges.class,
         BoundariesOfQuestions.class, BoundariesOfTexts.class, BoundariesOfStates.class);
-    private static final String SECTIONS = "Terms|Settings|Guests|Pauses|The lexicon|Texts|Promise \\d+";
+    private static final String SECTIONS = "What it is|Terms|Settings|Guests|Pauses|The lexicon|Texts|Promise \\d+";
     private static final Pattern BOUNDARY = Pattern.compile("NO_SUCH|BAD_VALUE|BAD_TEXT|TOO_MANY|NOT_POSSIBLE|NONE"
         + "|\\b\\d+ (to|or) \\d+|at most|up to|at first|without(?!\\()|nobody|\\bnone\\b|no more"
         + "|only if|nothing|empty|\\balso\\b|too early|oldest|latest|above|longer|shorter|lowest|highest"
@@ -48,7 +48,7 @@ public final class BoundariesTest {
                 orderIsTested(section.getKey(), section.getValue(), tests);
             }
         }
-        Due.is("sections of the document", sections.keySet().stream().filter(s -> s.matches(SECTIONS)).count(), 6 + 27);
+        Due.is("sections of the document", sections.keySet().stream().filter(s -> s.matches(SECTIONS)).count(), 7 + 27);
         Due.close();
     }
 

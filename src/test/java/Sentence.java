@@ -7,7 +7,7 @@ import java.lang.annotation.Target;
 @Retention(RetentionPolicy.RUNTIME)
 @Target(ElementType.METHOD)
 @interface Sentence {
-    /** "Terms", "Guests", "Promise 3". */
+    /** "What it is", "Terms", "Guests", "Promise 3". */
     String of();
 
     String says();

@@ -50,7 +50,7 @@ final class Twins {
         return answer;
     }
 
-    /** All that a room tells, in some 240 calls: with those that made it, it is asked 512 times at most. */
+    /** All that a room tells, in some 190 calls: with those that made it, it is asked 512 times at most. */
     static List<Integer> everything(PauseLexicons room) {
         List<Integer> answers = new ArrayList<>();
         for (int guest = 0; guest < 10; guest++) {
